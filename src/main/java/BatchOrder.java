@@ -632,7 +632,7 @@ public final class BatchOrder {
                 if (taken[label] >= sizes[label]) {
                     mixLabel(label, round);
                 }
-                places[made] = scratch[firsts[label] + taken[label]];
+                places[made] = rowHeld(firsts[label] + taken[label]);
                 taken[label]++;
                 made++;
             }
@@ -656,10 +656,14 @@ public final class BatchOrder {
             }
         }
 
+        private int rowHeld(int k) {
+            return k >= 0 && k < scratch.length ? scratch[k] : NONE;
+        }
+
         private void mixLabel(int label, int round) {
             int place = firsts[label];
             for (int r = 0; r < many; r++) {
-                if (rows.label(r) == label) {
+                if (rows.label(r) == label && place < scratch.length) {
                     scratch[place] = r;
                     place++;
                 }

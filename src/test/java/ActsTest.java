@@ -256,7 +256,26 @@ public final class ActsTest {
         checks.due("the same bytes, other sides", x.like(4), 0);
         x.paint(0, 5, 0L);
         checks.due("the row's last byte is another one now", x.like(0), 0);
+        aWordMoreIsADifference();
         wordsAreNoPicture();
+    }
+
+    private static void aWordMoreIsADifference() {
+        BatchOrder x = new BatchOrder();
+        x.row(0, 0, 0);
+        x.row(0, 0, 0);
+        x.word(0, 5);
+        x.act(3, 0, 0, 0);
+        x.word(0, 0);
+        checks.due("the row has a word 0 more", x.like(0), 0);
+        x.act(3, 0, 0, 0);
+        x.word(1, 5);
+        checks.due("OUT has a word 0 more", x.like(1), 0);
+        x.word(1, 0);
+        checks.due("another row with the same words", x.like(1), 1);
+        x.act(3, 1, 0, 100);
+        x.row(0, 0, 0);
+        checks.due("no words and another row without words", x.like(2), 1);
     }
 
     private static void wordsAreNoPicture() {

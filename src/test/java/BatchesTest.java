@@ -132,6 +132,13 @@ public final class BatchesTest {
             y.row(2, 5, 0);
         }
         checks.due("one LABEL", wholeOrder(y, 3, 0), 2, 1, 0);
+        checks.due("sixty rows of one LABEL", plainRows(60).once(3, 0), 1);
+        BatchOrder last = plainRows(60);
+        last.mark(0, 7, 0);
+        int[] order = wholeOrder(last, 3, 0);
+        for (int p = 1; p < 60; p += 2) {
+            checks.due("the only row of the last LABEL", order[p], 0);
+        }
     }
 
     private static void bufferedOrder() {
@@ -180,6 +187,9 @@ public final class BatchesTest {
         checks.due("all WEIGHTS 0", x.batch(2, 0, 0, 0), ZERO);
         checks.due("all WEIGHTS 0, no such batch", x.batch(2, 0, 9, 9), ZERO);
         checks.due("all WEIGHTS 0, another WAY", x.batch(4, 0, 0, 0) >= 0 ? 1 : 0, 1);
+        BatchOrder single = new BatchOrder();
+        single.row(0, 0, 0);
+        checks.due("the only WEIGHT 0", single.batch(2, 0, 0, 0), ZERO);
         x.set(0, 0);
         for (int way = 0; way < 5; way++) {
             checks.due("SIZE 0, WAY " + way, x.batch(way, 0, 0, 0), ZERO);
