@@ -1,290 +1,523 @@
-/** Promises 1 to 9: a new object, row, picture, word, paint, mark, of, seed, set. */
+/** Terms, the ROWS themselves, and promises 1 to 9: a new object, row, picture, word, paint, mark, of, seed, set. */
 public final class RowsTest {
-    private static final int[] BELOW_AND_ABOVE_ALL = {Integer.MIN_VALUE, Integer.MAX_VALUE};
+    private static final int BAD = BatchOrder.BAD;
+    private static final int FULL = BatchOrder.FULL;
+    private static final int LOWEST = Integer.MIN_VALUE;
+    private static final int HIGHEST = Integer.MAX_VALUE;
     private static final Checks checks = new Checks();
 
     public static void main(String[] args) {
-        aNewObjectHasNoRows();
-        rowAnswersItsNumber();
-        rowRefuses();
-        pictureAnswersItsNumber();
-        pictureRefuses();
-        sixtyRowsAreFull();
-        wordAnswersHowMany();
-        wordRefuses();
-        paintLaysEightBytes();
-        paintLeavesOutWhatIsBeyond();
-        paintRefuses();
-        markChangesLabelAndWeight();
-        markRefuses();
-        ofTellsAll();
-        ofRefuses();
-        seedAnswersWhatItWas();
-        setAnswersWhatItWas();
-        setRefuses();
+        terms();
+        newObject();
+        row();
+        picture();
+        word();
+        paint();
+        mark();
+        of();
+        seed();
+        set();
         checks.end();
     }
 
-    private static void aNewObjectHasNoRows() {
-        BatchOrder x = new BatchOrder();
-        checks.due("of(0, 0) of a new object", x.of(0, 0), BatchOrder.BAD);
-        checks.due("next() of a new object", x.next(), BatchOrder.NONE);
-        checks.due("count() of a new object", x.count(), 0);
-        checks.due("out(-1) of a new object", x.out(-1), -11);
-        checks.due("at(0) of a new object", x.at(0), 0);
-        checks.due("at(1) of a new object", x.at(1), 0);
-        checks.due("at(2) of a new object", x.at(2), 0);
-        checks.due("seed of a new object", x.seed(1), 0);
-        BatchOrder y = new BatchOrder();
-        x.row(0, 0, 0);
-        checks.due("another object's rows", y.of(0, 0), BatchOrder.BAD);
-        checks.due("another object's seed", y.seed(0), 0);
+    private static void terms() {
+        atMostSixtyRows();
+        rowsAreNumberedFromZero();
+        wordsAreInts();
+        bytesAreZeroTo255();
+        linesOfWideEach();
+        labelsAreZeroToSeven();
+        weightsAreZeroToThousand();
+        lengthIsByKind();
+        settingsAtFirst();
     }
 
-    private static void rowAnswersItsNumber() {
-        BatchOrder x = new BatchOrder();
-        checks.due("row of words", x.row(0, 0, 0), 0);
-        checks.due("row of nothing", x.row(2, 7, 1000), 1);
-        checks.due("third row", x.row(0, 7, 1), 2);
-        checks.due("kind of words", x.of(0, 0), 0);
-        checks.due("kind of nothing", x.of(1, 0), 2);
-        checks.due("words at first", x.of(0, 3), 0);
+    private static void atMostSixtyRows() {
+        checks.sentence("Terms", "2 ROWS, 60 at most");
+        BatchOrder x = Sample.rows(59);
+        checks.due("the sixtieth", x.row(0, 0, 0), 59);
+        checks.due("one more", x.row(0, 0, 0), FULL);
+        checks.due("ROW 59", x.of(59, 0), 0);
+        checks.due("ROW 60", x.of(60, 0), BAD);
     }
 
-    private static void rowRefuses() {
-        BatchOrder x = new BatchOrder();
-        checks.due("row of a picture", x.row(1, 0, 0), BatchOrder.BAD);
-        checks.due("kind -1", x.row(-1, 0, 0), BatchOrder.BAD);
-        checks.due("kind 3", x.row(3, 0, 0), BatchOrder.BAD);
-        checks.due("label -1", x.row(0, -1, 0), BatchOrder.BAD);
-        checks.due("label 8", x.row(0, 8, 0), BatchOrder.BAD);
-        checks.due("weight -1", x.row(0, 0, -1), BatchOrder.BAD);
-        checks.due("weight 1001", x.row(0, 0, 1001), BatchOrder.BAD);
-        for (int far : BELOW_AND_ABOVE_ALL) {
-            checks.due("row far kind", x.row(far, 0, 0), BatchOrder.BAD);
-            checks.due("row far label", x.row(0, far, 0), BatchOrder.BAD);
-            checks.due("row far weight", x.row(0, 0, far), BatchOrder.BAD);
-        }
-        checks.due("a refusal changes nothing", x.row(0, 0, 0), 0);
-    }
-
-    private static void pictureAnswersItsNumber() {
-        BatchOrder x = new BatchOrder();
-        checks.due("smallest picture", x.picture(1, 1, 0, 0), 0);
-        checks.due("largest picture", x.picture(40, 40, 7, 1000), 1);
-        checks.due("a picture", x.picture(2, 5, 3, 4), 2);
-        checks.due("its kind", x.of(2, 0), 1);
-        checks.due("its label", x.of(2, 1), 3);
-        checks.due("its weight", x.of(2, 2), 4);
-        checks.due("its length", x.of(2, 3), 10);
-        checks.due("its high", x.of(2, 4), 2);
-        checks.due("its wide", x.of(2, 5), 5);
-        checks.due("the largest one's length", x.of(1, 3), 1600);
-        checks.due("noise that changes nothing", x.act(2, 2, 0, 1), 10);
-        for (int k = 0; k < 10; k++) {
-            checks.due("byte at first", x.out(k), 0);
-        }
-    }
-
-    private static void pictureRefuses() {
-        BatchOrder x = new BatchOrder();
-        for (int side : new int[] {0, -1, 41, Integer.MIN_VALUE, Integer.MAX_VALUE, 65536}) {
-            checks.due("high " + side, x.picture(side, 1, 0, 0), BatchOrder.BAD);
-            checks.due("wide " + side, x.picture(1, side, 0, 0), BatchOrder.BAD);
-            checks.due("both " + side, x.picture(side, side, 0, 0), BatchOrder.BAD);
-        }
-        checks.due("label -1", x.picture(1, 1, -1, 0), BatchOrder.BAD);
-        checks.due("label 8", x.picture(1, 1, 8, 0), BatchOrder.BAD);
-        checks.due("weight -1", x.picture(1, 1, 0, -1), BatchOrder.BAD);
-        checks.due("weight 1001", x.picture(1, 1, 0, 1001), BatchOrder.BAD);
-        checks.due("a refusal changes nothing", x.picture(1, 1, 0, 0), 0);
-    }
-
-    private static void sixtyRowsAreFull() {
+    private static void rowsAreNumberedFromZero() {
+        checks.sentence("Terms", "numbered from 0");
         BatchOrder x = new BatchOrder();
         for (int r = 0; r < 60; r++) {
-            int kind = r % 3;
-            int got = kind == 1 ? x.picture(1, 2, 0, 0) : x.row(kind, 0, 0);
-            checks.due("row " + r, got, r);
+            checks.due("ROW " + r, r % 2 == 0 ? x.row(2, 0, 0) : x.picture(1, 1, 0, 0), r);
         }
-        checks.due("row 60", x.row(0, 0, 0), BatchOrder.FULL);
-        checks.due("nothing 60", x.row(2, 0, 0), BatchOrder.FULL);
-        checks.due("picture 60", x.picture(1, 1, 0, 0), BatchOrder.FULL);
-        checks.due("bad ahead of full", x.row(1, 0, 0), BatchOrder.BAD);
-        checks.due("bad label ahead of full", x.row(0, 8, 0), BatchOrder.BAD);
-        checks.due("bad picture ahead of full", x.picture(0, 1, 0, 0), BatchOrder.BAD);
-        checks.due("the last row", x.of(59, 0), 2);
-        checks.due("no row behind it", x.of(60, 0), BatchOrder.BAD);
     }
 
-    private static void wordAnswersHowMany() {
-        BatchOrder x = new BatchOrder();
-        x.row(0, 0, 0);
-        x.row(0, 0, 0);
-        for (int k = 1; k <= 40; k++) {
-            checks.due("word " + k, x.word(0, k * 1000003), k);
-        }
-        checks.due("word 41", x.word(0, 7), BatchOrder.FULL);
-        checks.due("length", x.of(0, 3), 40);
-        checks.due("the other row's length", x.of(1, 3), 0);
-        checks.due("the other row's first word", x.word(1, Integer.MIN_VALUE), 1);
-        x.act(3, 0, 0, 0);
-        checks.due("first word", x.out(0), 1000003);
-        checks.due("last word", x.out(39), 40000120);
-        x.act(3, 1, 0, 0);
-        checks.due("lowest word", x.out(0), Integer.MIN_VALUE);
+    private static void wordsAreInts() {
+        checks.sentence("Terms", "a KIND (0 WORDS: ints");
+        BatchOrder x = Sample.ofWords(LOWEST, -1, 0, 1, HIGHEST);
+        checks.due("as told", Sample.words(x, 0), LOWEST, -1, 0, 1, HIGHEST);
+        checks.due("KIND", x.of(0, 0), 0);
     }
 
-    private static void wordRefuses() {
+    private static void bytesAreZeroTo255() {
+        checks.sentence("Terms", "1 PICTURE: bytes 0 .. 255");
         BatchOrder x = new BatchOrder();
-        checks.due("without rows", x.word(0, 1), BatchOrder.BAD);
-        x.picture(1, 1, 0, 0);
+        x.picture(1, 8, 0, 0);
+        x.paint(0, 0, 0x00017F8081FEFF00L);
+        checks.due("as told", Sample.bytes(x, 0), 0, 1, 127, 128, 129, 254, 255, 0);
+        checks.due("KIND", x.of(0, 0), 1);
+    }
+
+    private static void linesOfWideEach() {
+        checks.sentence("Terms", "HIGH lines of WIDE each; 2 NOTHING)");
+        BatchOrder x = Sample.ofPicture(3, 2);
         x.row(2, 0, 0);
-        x.row(0, 0, 0);
-        checks.due("of a picture", x.word(0, 1), BatchOrder.BAD);
-        checks.due("of nothing", x.word(1, 1), BatchOrder.BAD);
-        checks.due("row -1", x.word(-1, 1), BatchOrder.BAD);
-        checks.due("row 3", x.word(3, 1), BatchOrder.BAD);
-        for (int far : BELOW_AND_ABOVE_ALL) {
-            checks.due("far row", x.word(far, 1), BatchOrder.BAD);
+        x.act(1, 0, 4, 1);
+        checks.due("CROP of a single byte", x.out(0), 5);
+        x.act(1, 0, 7, 2);
+        checks.due("CROP of the first lines", Sample.out(x), 0, 1, 2, 3);
+        checks.due("KIND", x.of(1, 0), 2);
+    }
+
+    private static void labelsAreZeroToSeven() {
+        checks.sentence("Terms", "a LABEL (0 .. 7)");
+        for (int label : new int[] {LOWEST, -1, 0, 7, 8, HIGHEST}) {
+            boolean is = label == 0 || label == 7;
+            BatchOrder x = new BatchOrder();
+            checks.due("row of LABEL " + label, x.row(0, label, 0), is ? 0 : BAD);
+            checks.due("picture of LABEL " + label, x.picture(1, 1, label, 0), is ? 1 : BAD);
+            checks.due("LABEL of the row", x.of(0, 1), is ? label : BAD);
+            checks.due("LABEL of the picture", x.of(1, 1), is ? label : BAD);
+            BatchOrder y = Sample.ofLabels(3);
+            checks.due("mark of LABEL " + label, y.mark(0, label, 0), is ? 1 : BAD);
+            checks.due("LABEL then", y.of(0, 1), is ? label : 3);
         }
-        checks.due("a refusal changes nothing", x.word(2, 1), 1);
     }
 
-    private static int[] bytes(BatchOrder x, int row) {
-        int[] bytes = new int[x.act(2, row, 0, 1)];
-        for (int k = 0; k < bytes.length; k++) {
-            bytes[k] = x.out(k);
+    private static void weightsAreZeroToThousand() {
+        checks.sentence("Terms", "a WEIGHT (0 .. 1000).");
+        for (int weight : new int[] {LOWEST, -1, 0, 1000, 1001, HIGHEST}) {
+            boolean is = weight == 0 || weight == 1000;
+            BatchOrder x = new BatchOrder();
+            checks.due("row of WEIGHT " + weight, x.row(2, 0, weight), is ? 0 : BAD);
+            checks.due("picture of WEIGHT " + weight, x.picture(1, 1, 0, weight), is ? 1 : BAD);
+            checks.due("WEIGHT of the row", x.of(0, 2), is ? weight : BAD);
+            checks.due("WEIGHT of the picture", x.of(1, 2), is ? weight : BAD);
+            BatchOrder y = Sample.ofWeights(3);
+            checks.due("mark of WEIGHT " + weight, y.mark(0, 0, weight), is ? 1 : BAD);
+            checks.due("WEIGHT then", y.of(0, 2), is ? weight : 3);
         }
-        return bytes;
     }
 
-    private static void paintLaysEightBytes() {
-        BatchOrder x = new BatchOrder();
-        x.picture(2, 6, 0, 0);
-        checks.due("paint", x.paint(0, 1, 0x80FF007F01020304L), 1);
-        checks.due("highest first", bytes(x, 0), 0, 128, 255, 0, 127, 1, 2, 3, 4, 0, 0, 0);
-        checks.due("paint again", x.paint(0, 0, 0L), 1);
-        checks.due("zeros too", bytes(x, 0), 0, 0, 0, 0, 0, 0, 0, 0, 4, 0, 0, 0);
-    }
-
-    private static void paintLeavesOutWhatIsBeyond() {
-        BatchOrder x = new BatchOrder();
-        x.picture(2, 2, 0, 0);
+    private static void lengthIsByKind() {
+        checks.sentence("Terms", "LENGTH: how many WORDS; HIGH times WIDE; 0.");
+        BatchOrder x = Sample.ofLengths(0, 1, 40);
         x.picture(1, 1, 0, 0);
-        x.picture(2, 2, 0, 0);
-        checks.due("paint", x.paint(0, 2, 0x0102030405060708L), 1);
-        checks.due("two of eight", bytes(x, 0), 0, 0, 1, 2);
-        checks.due("paint the last", x.paint(0, 3, -1L), 1);
-        checks.due("one of eight", bytes(x, 0), 0, 0, 1, 255);
-        checks.due("paint the single", x.paint(1, 0, 0x0900000000000000L), 1);
-        checks.due("the single", bytes(x, 1), 9);
-        checks.due("the row behind", bytes(x, 2), 0, 0, 0, 0);
-    }
-
-    private static void paintRefuses() {
-        BatchOrder x = new BatchOrder();
-        checks.due("without rows", x.paint(0, 0, 1L), BatchOrder.BAD);
-        x.picture(2, 2, 0, 0);
-        x.row(0, 0, 0);
+        x.picture(40, 40, 0, 0);
+        x.picture(2, 40, 0, 0);
         x.row(2, 0, 0);
-        x.word(1, 5);
-        checks.due("place -1", x.paint(0, -1, -1L), BatchOrder.BAD);
-        checks.due("place 4", x.paint(0, 4, -1L), BatchOrder.BAD);
-        checks.due("of words", x.paint(1, 0, -1L), BatchOrder.BAD);
-        checks.due("of nothing", x.paint(2, 0, -1L), BatchOrder.BAD);
-        checks.due("row -1", x.paint(-1, 0, -1L), BatchOrder.BAD);
-        checks.due("row 3", x.paint(3, 0, -1L), BatchOrder.BAD);
-        for (int far : BELOW_AND_ABOVE_ALL) {
-            checks.due("far place", x.paint(0, far, -1L), BatchOrder.BAD);
-            checks.due("far row", x.paint(far, 0, -1L), BatchOrder.BAD);
+        int[] want = {0, 1, 40, 1, 1600, 80, 0};
+        for (int r = 0; r < want.length; r++) {
+            checks.due("of(" + r + ", 3)", x.of(r, 3), want[r]);
         }
-        checks.due("a refusal changes nothing", bytes(x, 0), 0, 0, 0, 0);
     }
 
-    private static void markChangesLabelAndWeight() {
+    private static void settingsAtFirst() {
+        checks.sentence("Terms", "SIZE 4, GROUP 8, BUFFER 5, SEED 0 at first.");
         BatchOrder x = new BatchOrder();
-        x.row(0, 1, 2);
-        x.picture(1, 1, 3, 4);
-        checks.due("mark", x.mark(1, 7, 1000), 1);
-        checks.due("label", x.of(1, 1), 7);
-        checks.due("weight", x.of(1, 2), 1000);
-        checks.due("the other's label", x.of(0, 1), 1);
-        checks.due("the other's weight", x.of(0, 2), 2);
-        checks.due("mark to 0", x.mark(0, 0, 0), 1);
-        checks.due("label 0", x.of(0, 1), 0);
-        checks.due("weight 0", x.of(0, 2), 0);
+        checks.due("SIZE", x.set(0, 9), 4);
+        checks.due("GROUP", x.set(1, 9), 8);
+        checks.due("BUFFER", x.set(2, 9), 5);
+        checks.due("SEED", x.seed(9), 0);
+        BatchOrder other = new BatchOrder();
+        checks.due("another object's SIZE", other.set(0, 4), 4);
+        checks.due("another object's GROUP", other.set(1, 8), 8);
+        checks.due("another object's BUFFER", other.set(2, 5), 5);
+        checks.due("another object's SEED", other.seed(0), 0);
     }
 
-    private static void markRefuses() {
+    private static void newObject() {
+        checks.sentence("Promise 1", "No ROWS; SEED 0.");
         BatchOrder x = new BatchOrder();
-        checks.due("without rows", x.mark(0, 0, 0), BatchOrder.BAD);
-        x.row(2, 1, 2);
-        checks.due("label -1", x.mark(0, -1, 5), BatchOrder.BAD);
-        checks.due("label 8", x.mark(0, 8, 5), BatchOrder.BAD);
-        checks.due("weight -1", x.mark(0, 5, -1), BatchOrder.BAD);
-        checks.due("weight 1001", x.mark(0, 5, 1001), BatchOrder.BAD);
-        checks.due("row 1", x.mark(1, 0, 0), BatchOrder.BAD);
-        checks.due("row -1", x.mark(-1, 0, 0), BatchOrder.BAD);
-        checks.due("label as it was", x.of(0, 1), 1);
-        checks.due("weight as it was", x.of(0, 2), 2);
+        checks.due("of(0, 0)", x.of(0, 0), BAD);
+        checks.due("next()", x.next(), BatchOrder.NONE);
+        checks.due("count()", x.count(), 0);
+        checks.due("like(0)", x.like(0), BAD);
+        checks.due("seed", x.seed(1), 0);
+        x.row(0, 0, 0);
+        BatchOrder other = new BatchOrder();
+        checks.due("another object's rows", other.of(0, 0), BAD);
+        checks.due("another object's first row", other.row(2, 0, 0), 0);
+        checks.due("another object's seed", other.seed(0), 0);
     }
 
-    private static void ofTellsAll() {
+    private static void row() {
+        rowIsWordsOrNothing();
+        rowRefuses();
+        rowIsFull();
+    }
+
+    private static void rowIsWordsOrNothing() {
+        checks.sentence("Promise 2", "WORDS without any yet (kind 0), NOTHING (2): the ROW's number.");
         BatchOrder x = new BatchOrder();
-        x.row(0, 6, 11);
-        x.word(0, 1);
-        x.word(0, 1);
-        x.picture(3, 7, 5, 12);
-        x.row(2, 4, 13);
-        int[][] want = {{0, 6, 11, 2, 0, 0}, {1, 5, 12, 21, 3, 7}, {2, 4, 13, 0, 0, 0}};
+        checks.due("WORDS", x.row(0, 3, 4), 0);
+        checks.due("NOTHING", x.row(2, 5, 6), 1);
+        checks.due("WORDS again", x.row(0, 0, 0), 2);
+        int[][] want = {{0, 3, 4, 0, 0, 0}, {2, 5, 6, 0, 0, 0}, {0, 0, 0, 0, 0, 0}};
         for (int r = 0; r < 3; r++) {
             for (int what = 0; what < 6; what++) {
                 checks.due("of(" + r + ", " + what + ")", x.of(r, what), want[r][what]);
             }
         }
+        checks.due("the first word", x.word(0, 7), 1);
     }
 
-    private static void ofRefuses() {
+    private static void rowRefuses() {
+        checks.sentence("Promise 2", "BAD: kind, LABEL, WEIGHT");
+        int[][] wrong = {{1, 0, 0}, {-1, 0, 0}, {3, 0, 0}, {LOWEST, 0, 0}, {HIGHEST, 0, 0}, {0, -1, 0}, {0, 8, 0},
+            {2, LOWEST, 0}, {2, HIGHEST, 0}, {0, 0, -1}, {0, 0, 1001}, {2, 0, LOWEST}, {2, 0, HIGHEST}};
         BatchOrder x = new BatchOrder();
-        x.row(0, 6, 11);
-        checks.due("what -1", x.of(0, -1), BatchOrder.BAD);
-        checks.due("what 6", x.of(0, 6), BatchOrder.BAD);
-        checks.due("row 1", x.of(1, 0), BatchOrder.BAD);
-        checks.due("row -1", x.of(-1, 0), BatchOrder.BAD);
-        for (int far : BELOW_AND_ABOVE_ALL) {
-            checks.due("far row", x.of(far, 0), BatchOrder.BAD);
-            checks.due("far what", x.of(0, far), BatchOrder.BAD);
+        for (int[] w : wrong) {
+            checks.due("row" + written(w), x.row(w[0], w[1], w[2]), BAD);
+        }
+        checks.due("the first row that is right", x.row(0, 0, 0), 0);
+    }
+
+    private static void rowIsFull() {
+        checks.sentence("Promise 2", "; FULL.");
+        BatchOrder x = Sample.rows(60);
+        checks.due("WORDS", x.row(0, 0, 0), FULL);
+        checks.due("NOTHING", x.row(2, 0, 0), FULL);
+        checks.due("BAD is ahead of it: kind", x.row(1, 0, 0), BAD);
+        checks.due("BAD is ahead of it: LABEL", x.row(0, 8, 0), BAD);
+        checks.due("BAD is ahead of it: WEIGHT", x.row(0, 0, -1), BAD);
+    }
+
+    private static void picture() {
+        pictureOfOneToForty();
+        pictureIsAllZero();
+        pictureRefuses();
+        pictureIsFull();
+    }
+
+    private static void pictureOfOneToForty() {
+        checks.sentence("Promise 3", "A PICTURE of so many lines (1 .. 40) of so many bytes (1 .. 40)");
+        int[][] sides = {{1, 1}, {1, 40}, {40, 1}, {40, 40}};
+        for (int[] s : sides) {
+            BatchOrder x = new BatchOrder();
+            checks.due("picture" + written(s), x.picture(s[0], s[1], 2, 3), 0);
+            checks.due("HIGH", x.of(0, 4), s[0]);
+            checks.due("WIDE", x.of(0, 5), s[1]);
+            checks.due("its last place", x.paint(0, s[0] * s[1] - 1, 0L), 1);
+            checks.due("behind it", x.paint(0, s[0] * s[1], 0L), BAD);
+        }
+        int[][] wrong = {{0, 1}, {1, 0}, {0, 0}, {41, 1}, {1, 41}, {41, 41}, {-1, 1}, {1, -1}, {-1, -1}, {LOWEST, 1},
+            {1, LOWEST}, {HIGHEST, 1}, {1, HIGHEST}, {65536, 65536}, {LOWEST, 2}};
+        for (int[] s : wrong) {
+            checks.due("picture" + written(s), new BatchOrder().picture(s[0], s[1], 0, 0), BAD);
         }
     }
 
-    private static void seedAnswersWhatItWas() {
-        BatchOrder x = new BatchOrder();
-        checks.due("at first", x.seed(Long.MIN_VALUE), 0);
-        checks.due("then", x.seed(-1L), Long.MIN_VALUE);
-        checks.due("then", x.seed(1L << 40), -1L);
-        checks.due("then", x.seed(0), 1L << 40);
+    private static void pictureIsAllZero() {
+        checks.sentence("Promise 3", "all 0: the ROW's number.");
+        BatchOrder x = Sample.ofPicture(2, 4);
+        checks.due("a second one", x.picture(2, 4, 1, 2), 1);
+        checks.due("its bytes", Sample.bytes(x, 1), 0, 0, 0, 0, 0, 0, 0, 0);
+        checks.due("the first one's bytes", Sample.bytes(x, 0), 0, 1, 2, 3, 4, 5, 6, 7);
+        checks.due("LABEL", x.of(1, 1), 1);
+        checks.due("WEIGHT", x.of(1, 2), 2);
     }
 
-    private static void setAnswersWhatItWas() {
-        int[][] turns = {{0, 20, 4}, {0, 0, 20}, {0, 1, 0}, {1, 60, 8}, {1, 1, 60}, {1, 2, 1},
-            {2, 60, 5}, {2, 1, 60}, {2, 2, 1}, {3, 1, 0}, {3, 0, 1}, {3, 0, 0}};
+    private static void pictureRefuses() {
+        checks.sentence("Promise 3", "BAD;");
+        int[][] wrong = {{0, 1, 0, 0}, {1, 41, 0, 0}, {1, 1, -1, 0}, {1, 1, 8, 0}, {1, 1, LOWEST, 0}, {1, 1, 0, -1},
+            {1, 1, 0, 1001}, {1, 1, 0, HIGHEST}};
         BatchOrder x = new BatchOrder();
-        for (int[] turn : turns) {
-            checks.due("set(" + turn[0] + ", " + turn[1] + ")", x.set(turn[0], turn[1]), turn[2]);
+        for (int[] w : wrong) {
+            checks.due("picture" + written(w), x.picture(w[0], w[1], w[2], w[3]), BAD);
+        }
+        checks.due("the first one that is right", x.picture(1, 1, 0, 0), 0);
+    }
+
+    private static void pictureIsFull() {
+        checks.sentence("Promise 3", "BAD; FULL.");
+        BatchOrder x = Sample.rows(60);
+        checks.due("a picture more", x.picture(1, 1, 0, 0), FULL);
+        checks.due("BAD is ahead of it: HIGH", x.picture(0, 1, 0, 0), BAD);
+        checks.due("BAD is ahead of it: WIDE", x.picture(1, 41, 0, 0), BAD);
+        checks.due("BAD is ahead of it: LABEL", x.picture(1, 1, 8, 0), BAD);
+        checks.due("BAD is ahead of it: WEIGHT", x.picture(1, 1, 0, 1001), BAD);
+    }
+
+    private static void word() {
+        wordAnswersHowMany();
+        wordRefuses();
+        wordIsFullAtForty();
+    }
+
+    private static void wordAnswersHowMany() {
+        checks.sentence("Promise 4", "A WORD more of a ROW of WORDS: how many it has.");
+        BatchOrder x = Sample.ofLengths(0, 0);
+        checks.due("first", x.word(1, 5), 1);
+        checks.due("second", x.word(1, 5), 2);
+        checks.due("the other row's first", x.word(0, -6), 1);
+        checks.due("third", x.word(1, LOWEST), 3);
+        checks.due("the words", Sample.words(x, 1), 5, 5, LOWEST);
+        checks.due("the other row's words", Sample.words(x, 0), -6);
+    }
+
+    private static void wordRefuses() {
+        checks.sentence("Promise 4", "BAD: also a ROW of another KIND");
+        BatchOrder x = new BatchOrder();
+        checks.due("without rows", x.word(0, 1), BAD);
+        x.picture(1, 1, 0, 0);
+        x.row(2, 0, 0);
+        x.row(0, 0, 0);
+        checks.due("of a PICTURE", x.word(0, 1), BAD);
+        checks.due("of NOTHING", x.word(1, 1), BAD);
+        for (int row : new int[] {-1, 3, 60, LOWEST, HIGHEST}) {
+            checks.due("ROW " + row, x.word(row, 1), BAD);
+        }
+        checks.due("of WORDS", x.word(2, 1), 1);
+    }
+
+    private static void wordIsFullAtForty() {
+        checks.sentence("Promise 4", "FULL: 40.");
+        BatchOrder x = Sample.ofLengths(39, 0);
+        checks.due("the fortieth", x.word(0, 123), 40);
+        checks.due("one more", x.word(0, 456), FULL);
+        checks.due("and again", x.word(0, 789), FULL);
+        checks.due("LENGTH", x.of(0, 3), 40);
+        int[] words = Sample.words(x, 0);
+        checks.due("the last but one", words[38], 38);
+        checks.due("the last", words[39], 123);
+        checks.due("the other row's first", x.word(1, 0), 1);
+    }
+
+    private static void paint() {
+        paintLaysEightBytes();
+        paintGoesLineByLine();
+        paintLeavesOutWhatIsBeyond();
+        paintLaysTheHighestFirst();
+        paintRefuses();
+        paintRefusesAPlaceThatIsNotThere();
+    }
+
+    private static void paintLaysEightBytes() {
+        checks.sentence("Promise 5", "Eight bytes of a PICTURE from place k on");
+        BatchOrder x = Sample.ofPicture(1, 12);
+        checks.due("paint", x.paint(0, 2, 0x6465666768696A6BL), 1);
+        checks.due("eight, no more", Sample.bytes(x, 0), 0, 1, 100, 101, 102, 103, 104, 105, 106, 107, 10, 11);
+        checks.due("zeros too", x.paint(0, 0, 0L), 1);
+        checks.due("eight zeros", Sample.bytes(x, 0), 0, 0, 0, 0, 0, 0, 0, 0, 106, 107, 10, 11);
+    }
+
+    private static void paintGoesLineByLine() {
+        checks.sentence("Promise 5", "(of all, line by line;");
+        BatchOrder x = new BatchOrder();
+        x.picture(3, 3, 0, 0);
+        x.paint(0, 1, 0x0102030405060708L);
+        x.act(1, 0, 0, 3);
+        checks.due("over the ends of lines", Sample.out(x), 0, 1, 2, 3, 4, 5, 6, 7, 8);
+        x.act(0, 0, 0, 0);
+        checks.due("a quarter to the right", Sample.out(x), 6, 3, 0, 7, 4, 1, 8, 5, 2);
+    }
+
+    private static void paintLeavesOutWhatIsBeyond() {
+        checks.sentence("Promise 5", "those beyond its end are left out)");
+        BatchOrder x = new BatchOrder();
+        x.picture(2, 2, 0, 0);
+        x.picture(1, 1, 0, 0);
+        x.picture(3, 3, 0, 0);
+        x.picture(2, 2, 0, 0);
+        checks.due("paint from place 2 of 4", x.paint(0, 2, 0x0102030405060708L), 1);
+        checks.due("two of eight", Sample.bytes(x, 0), 0, 0, 1, 2);
+        checks.due("paint the last place", x.paint(0, 3, -1L), 1);
+        checks.due("one of eight", Sample.bytes(x, 0), 0, 0, 1, 255);
+        checks.due("paint the single place", x.paint(1, 0, 0x0908070605040302L), 1);
+        checks.due("the single byte", Sample.bytes(x, 1), 9);
+        checks.due("paint from place 2 of 9", x.paint(2, 2, 0x0102030405060708L), 1);
+        checks.due("seven of eight", Sample.bytes(x, 2), 0, 0, 1, 2, 3, 4, 5, 6, 7);
+        checks.due("the row behind", Sample.bytes(x, 3), 0, 0, 0, 0);
+        checks.due("LENGTH", x.of(0, 3), 4);
+    }
+
+    private static void paintLaysTheHighestFirst() {
+        checks.sentence("Promise 5", "the highest of v first: 1.");
+        BatchOrder x = new BatchOrder();
+        x.picture(2, 4, 0, 0);
+        checks.due("paint", x.paint(0, 0, 0x80FF007F01020304L), 1);
+        checks.due("the bytes", Sample.bytes(x, 0), 128, 255, 0, 127, 1, 2, 3, 4);
+        checks.due("paint -1", x.paint(0, 0, -1L), 1);
+        checks.due("all 255", Sample.bytes(x, 0), 255, 255, 255, 255, 255, 255, 255, 255);
+        checks.due("paint the lowest", x.paint(0, 0, Long.MIN_VALUE), 1);
+        checks.due("128 first", Sample.bytes(x, 0), 128, 0, 0, 0, 0, 0, 0, 0);
+    }
+
+    private static void paintRefuses() {
+        checks.sentence("Promise 5", "BAD: also a ROW of another KIND");
+        BatchOrder x = new BatchOrder();
+        checks.due("without rows", x.paint(0, 0, 1L), BAD);
+        x.row(0, 0, 0);
+        x.word(0, 5);
+        x.row(2, 0, 0);
+        x.picture(1, 1, 0, 0);
+        checks.due("of WORDS", x.paint(0, 0, 1L), BAD);
+        checks.due("of NOTHING", x.paint(1, 0, 1L), BAD);
+        for (int row : new int[] {-1, 3, 60, LOWEST, HIGHEST}) {
+            checks.due("ROW " + row, x.paint(row, 0, 1L), BAD);
+        }
+        checks.due("the words as they were", Sample.words(x, 0), 5);
+    }
+
+    private static void paintRefusesAPlaceThatIsNotThere() {
+        checks.sentence("Promise 5", "a place that is not there.");
+        BatchOrder x = new BatchOrder();
+        x.picture(2, 3, 0, 0);
+        for (int k : new int[] {-1, -8, 6, 7, 1600, LOWEST, HIGHEST}) {
+            checks.due("place " + k, x.paint(0, k, -1L), BAD);
+        }
+        checks.due("the bytes as they were", Sample.bytes(x, 0), 0, 0, 0, 0, 0, 0);
+        checks.due("place 0", x.paint(0, 0, -1L), 1);
+        checks.due("place 5", x.paint(0, 5, -1L), 1);
+    }
+
+    private static void mark() {
+        markMakesOthers();
+        markRefuses();
+    }
+
+    private static void markMakesOthers() {
+        checks.sentence("Promise 6", "A ROW's LABEL, WEIGHT become others: 1.");
+        BatchOrder x = new BatchOrder();
+        x.row(0, 1, 2);
+        x.picture(1, 1, 3, 4);
+        x.row(2, 5, 6);
+        checks.due("the highest", x.mark(1, 7, 1000), 1);
+        checks.due("the lowest", x.mark(2, 0, 0), 1);
+        int[][] want = {{1, 2}, {7, 1000}, {0, 0}};
+        for (int r = 0; r < 3; r++) {
+            checks.due("LABEL of " + r, x.of(r, 1), want[r][0]);
+            checks.due("WEIGHT of " + r, x.of(r, 2), want[r][1]);
+        }
+        checks.due("the same again", x.mark(1, 7, 1000), 1);
+    }
+
+    private static void markRefuses() {
+        checks.sentence("Promise 6", "BAD.");
+        checks.due("without rows", new BatchOrder().mark(0, 0, 0), BAD);
+        BatchOrder x = new BatchOrder();
+        x.row(2, 1, 2);
+        int[][] wrong = {{0, -1, 5}, {0, 8, 5}, {0, LOWEST, 5}, {0, HIGHEST, 5}, {0, 5, -1}, {0, 5, 1001},
+            {0, 5, LOWEST}, {0, 5, HIGHEST}, {1, 5, 5}, {-1, 5, 5}, {60, 5, 5}, {LOWEST, 5, 5}, {HIGHEST, 5, 5}};
+        for (int[] w : wrong) {
+            checks.due("mark" + written(w), x.mark(w[0], w[1], w[2]), BAD);
+        }
+        checks.due("LABEL as it was", x.of(0, 1), 1);
+        checks.due("WEIGHT as it was", x.of(0, 2), 2);
+    }
+
+    private static void of() {
+        ofTellsAll();
+        sidesOfOthersAreZero();
+        ofRefuses();
+    }
+
+    private static void ofTellsAll() {
+        checks.sentence("Promise 7", "Of a ROW: 0 KIND, 1 LABEL, 2 WEIGHT, 3 LENGTH, 4 HIGH, 5 WIDE");
+        BatchOrder x = new BatchOrder();
+        x.picture(3, 7, 5, 12);
+        int[] want = {1, 5, 12, 21, 3, 7};
+        for (int what = 0; what < 6; what++) {
+            checks.due("of(0, " + what + ")", x.of(0, what), want[what]);
+        }
+    }
+
+    private static void sidesOfOthersAreZero() {
+        checks.sentence("Promise 7", "(0 of others).");
+        BatchOrder x = Sample.ofLengths(3, 0);
+        x.row(2, 0, 0);
+        for (int r = 0; r < 3; r++) {
+            checks.due("HIGH of " + r, x.of(r, 4), 0);
+            checks.due("WIDE of " + r, x.of(r, 5), 0);
+        }
+    }
+
+    private static void ofRefuses() {
+        checks.sentence("Promise 7", "BAD.");
+        checks.due("without rows", new BatchOrder().of(0, 0), BAD);
+        BatchOrder x = Sample.ofPicture(2, 2);
+        for (int what : new int[] {-1, 6, LOWEST, HIGHEST}) {
+            checks.due("what " + what, x.of(0, what), BAD);
+        }
+        for (int row : new int[] {-1, 1, 60, LOWEST, HIGHEST}) {
+            checks.due("ROW " + row, x.of(row, 0), BAD);
+        }
+    }
+
+    private static void seed() {
+        checks.sentence("Promise 8", "SEED: what it was.");
+        BatchOrder x = Sample.rows(6);
+        checks.due("at first", x.seed(Long.MIN_VALUE), 0);
+        checks.due("ORDER by the lowest", Sample.order(x, 0, 3), 1, 0, 5, 3, 4, 2);
+        checks.due("then", x.seed(Long.MAX_VALUE), Long.MIN_VALUE);
+        checks.due("ORDER by the highest", Sample.order(x, 0, 3), 5, 3, 0, 2, 1, 4);
+        checks.due("then", x.seed(-1L), Long.MAX_VALUE);
+        checks.due("ORDER by -1", Sample.order(x, 0, 3), 0, 3, 1, 4, 2, 5);
+        checks.due("then", x.seed(1L << 40), -1L);
+        checks.due("then", x.seed(1L), 1L << 40);
+        checks.due("ORDER by 1", Sample.order(x, 0, 3), 5, 2, 1, 0, 4, 3);
+        checks.due("the same again", x.seed(1L), 1L);
+    }
+
+    private static void set() {
+        setWithin(0, "what = 0 SIZE (0 .. 20)", 4, 0, 20);
+        setWithin(1, "1 GROUP (1 .. 60)", 8, 1, 60);
+        setWithin(2, "2 BUFFER (1 .. 60)", 5, 1, 60);
+        setWithin(3, "3 DROPS (1, 0; 0 at first)", 0, 0, 1);
+        setChangesOneAlone();
+        setRefuses();
+    }
+
+    private static void setWithin(int what, String quote, int first, int least, int most) {
+        checks.sentence("Promise 9", quote);
+        BatchOrder x = new BatchOrder();
+        checks.due("below", x.set(what, least - 1), BAD);
+        checks.due("above", x.set(what, most + 1), BAD);
+        checks.due("lowest", x.set(what, LOWEST), BAD);
+        checks.due("highest", x.set(what, HIGHEST), BAD);
+        checks.due("the least, at first", x.set(what, least), first);
+        checks.due("the most", x.set(what, most), least);
+        checks.due("below", x.set(what, least - 1), BAD);
+        checks.due("above", x.set(what, most + 1), BAD);
+        checks.due("the least", x.set(what, least), most);
+        checks.due("the least again", x.set(what, least), least);
+    }
+
+    private static void setChangesOneAlone() {
+        checks.sentence("Promise 9", "becomes n: what it was.");
+        int[] first = {4, 8, 5, 0};
+        for (int what = 0; what < 4; what++) {
+            BatchOrder x = new BatchOrder();
+            checks.due("set(" + what + ", 1)", x.set(what, 1), first[what]);
+            for (int other = 0; other < 4; other++) {
+                checks.due("then set(" + other + ", 1)", x.set(other, 1), other == what ? 1 : first[other]);
+            }
         }
     }
 
     private static void setRefuses() {
-        int[][] wrong = {{0, -1}, {0, 21}, {1, 0}, {1, 61}, {2, 0}, {2, 61}, {3, -1}, {3, 2}, {-1, 1}, {4, 1},
-            {Integer.MIN_VALUE, 1}, {Integer.MAX_VALUE, 1}, {0, Integer.MIN_VALUE}, {1, Integer.MAX_VALUE}};
+        checks.sentence("Promise 9", "BAD.");
         BatchOrder x = new BatchOrder();
-        for (int[] w : wrong) {
-            checks.due("set(" + w[0] + ", " + w[1] + ")", x.set(w[0], w[1]), BatchOrder.BAD);
+        for (int what : new int[] {-1, 4, LOWEST, HIGHEST}) {
+            for (int n : new int[] {0, 1, 4, -1}) {
+                checks.due("set(" + what + ", " + n + ")", x.set(what, n), BAD);
+            }
         }
         checks.due("SIZE as it was", x.set(0, 1), 4);
         checks.due("GROUP as it was", x.set(1, 1), 8);
         checks.due("BUFFER as it was", x.set(2, 1), 5);
         checks.due("DROPS as it was", x.set(3, 1), 0);
+    }
+
+    private static String written(int[] arguments) {
+        return java.util.Arrays.toString(arguments);
     }
 }
