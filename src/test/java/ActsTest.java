@@ -180,7 +180,8 @@ public final class ActsTest {
     }
 
     private static void cropFirstLineAndPlace() {
-        checks.sentence("Terms", "the first line a DRAW below HIGH - n + 1, then the first place a DRAW below WIDE - n + 1.");
+        checks.sentence("Terms",
+            "the first line a DRAW below HIGH - n + 1, then the first place a DRAW below WIDE - n + 1.");
         BatchOrder x = Sample.ofPicture(3, 4);
         int[][] want = {{1, 2, 5, 6}, {1, 2, 5, 6}, {4, 5, 8, 9}, {1, 2, 5, 6}, {6, 7, 10, 11}, {2, 3, 6, 7},
             {6, 7, 10, 11}, {0, 1, 4, 5}};

@@ -10,6 +10,7 @@ public final class OrdersTest {
         roundsAreZeroToThousand();
         theLastRound();
         waysAreZeroToFour();
+        ordersAreOfWhatThereIsNow();
         plain();
         lengths();
         weighted();
@@ -58,6 +59,34 @@ public final class OrdersTest {
             checks.due("share, WAY " + way, x.share(way, 0, 0, 1, 0, 0), is ? 0 : BAD);
             checks.due("once, WAY " + way, x.once(way, 0), is ? 1 : BAD);
             checks.due("resume, WAY " + way, x.resume(way, 0, 0), is ? 1 : BAD);
+        }
+    }
+
+    // Asked for ahead of the change too, so that an ORDER kept from then would be seen.
+    private static void ordersAreOfWhatThereIsNow() {
+        checks.sentence("Terms", "is a row of ROWS, by a WAY:");
+        BatchOrder x = Sample.rows(9);
+        dueAllAsIn("nine ROWS", x, Sample.rows(9));
+        x.row(2, 0, 1);
+        dueAllAsIn("a ROW more", x, Sample.rows(10));
+        BatchOrder labels = Sample.ofLabels(0, 0, 0, 0, 0, 0);
+        Sample.order(labels, 3, 4);
+        labels.mark(5, 2, 1);
+        checks.due("another LABEL", Sample.order(labels, 3, 4), Sample.order(Sample.ofLabels(0, 0, 0, 0, 0, 2), 3, 4));
+        BatchOrder weights = Sample.ofWeights(1, 1, 1, 1, 1, 1);
+        Sample.order(weights, 2, 0);
+        weights.mark(0, 0, 900);
+        BatchOrder heavier = Sample.ofWeights(900, 1, 1, 1, 1, 1);
+        checks.due("another WEIGHT", Sample.order(weights, 2, 0), Sample.order(heavier, 2, 0));
+        BatchOrder lengths = Sample.ofLengths(0, 0, 0, 0);
+        Sample.order(lengths, 1, 0);
+        lengths.word(1, 5);
+        checks.due("another LENGTH", Sample.order(lengths, 1, 0), Sample.order(Sample.ofLengths(0, 1, 0, 0), 1, 0));
+    }
+
+    private static void dueAllAsIn(String what, BatchOrder x, BatchOrder other) {
+        for (int way = 0; way < 5; way++) {
+            checks.due(what + ", WAY " + way, Sample.order(x, way, 4), Sample.order(other, way, 4));
         }
     }
 
@@ -299,6 +328,12 @@ public final class OrdersTest {
             x.set(2, most);
             checks.due("BUFFER " + most + ", no more", Sample.order(x, 4, 6), 1, 7, 3, 0, 9, 5, 6, 2, 8, 4);
         }
+        BatchOrder sixty = Sample.rows(60);
+        sixty.set(2, 60);
+        checks.due("BUFFER 60 of sixty", Sample.order(sixty, 4, 0),
+            24, 8, 56, 4, 27, 48, 45, 21, 52, 14, 32, 1, 30, 19, 2, 22, 59, 42, 35, 5, 29, 0, 38, 54, 34, 37, 46, 9, 33,
+            13, 50, 6, 16, 7, 20, 28, 39, 44, 11, 55, 3, 12, 58, 57, 47, 17, 40, 53, 49, 41, 36, 18, 51, 31, 10, 25, 26,
+            43, 15, 23);
         BatchOrder five = Sample.rows(5);
         checks.due("BUFFER 5 of five", Sample.order(five, 4, 2), 2, 4, 0, 1, 3);
         five.set(2, 4);

@@ -142,10 +142,18 @@ public final class RowsTest {
         checks.due("like(0)", x.like(0), BAD);
         checks.due("seed", x.seed(1), 0);
         x.row(0, 0, 0);
+        x.act(3, 0, 0, 0);
+        x.resume(1, 2, 1);
         BatchOrder other = new BatchOrder();
         checks.due("another object's rows", other.of(0, 0), BAD);
+        checks.due("another object's OUT", other.out(-1), Sample.NULL);
+        checks.due("another object's place", Sample.atHand(other), 0, 0, 0);
         checks.due("another object's first row", other.row(2, 0, 0), 0);
         checks.due("another object's seed", other.seed(0), 0);
+        checks.due("the first object's row", x.of(0, 0), 0);
+        checks.due("the first object's OUT", x.out(-1), 0);
+        checks.due("the first object's place", Sample.atHand(x), 1, 2, 1);
+        checks.due("the first object's seed", x.seed(0), 1);
     }
 
     private static void row() {
