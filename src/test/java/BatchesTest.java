@@ -27,7 +27,8 @@ public final class BatchesTest {
     private static void countRoundsUpOrDrops() {
         checks.sentence("Promise 10", "How many BATCHES there are in an ORDER.");
         int[][] manySizeUpDrops = {{0, 4, 0, 0}, {0, 1, 0, 0}, {1, 1, 1, 1}, {1, 4, 1, 0}, {3, 4, 1, 0}, {4, 4, 1, 1},
-            {5, 4, 2, 1}, {8, 4, 2, 2}, {60, 1, 60, 60}, {60, 20, 3, 3}, {59, 20, 3, 2}, {41, 20, 3, 2}, {19, 20, 1, 0}};
+            {5, 4, 2, 1}, {8, 4, 2, 2}, {60, 1, 60, 60}, {60, 20, 3, 3}, {59, 20, 3, 2}, {41, 20, 3, 2},
+            {19, 20, 1, 0}};
         for (int[] c : manySizeUpDrops) {
             BatchOrder x = Sample.rows(c[0]);
             x.set(0, c[1]);

@@ -1,6 +1,6 @@
 import java.util.Arrays;
 
-/** Counts wrong answers, told with the document's sentence at hand; a test's main ends with exit code 1 if there was one. */
+/** Counts wrong answers and tells them with the sentence at hand; a main ends with exit code 1 if there was one. */
 final class Checks {
     private int made = 0;
     private int wrong = 0;
