@@ -12,7 +12,8 @@ public final class LanguageTest {
     private static final String[] NOT_THERE = {
         "\\bpackage\\b", "\\bimport\\b", "\\btry\\b", "\\bcatch\\b", "\\bfinally\\b", "\\bsynchronized\\b",
         "\\bassert\\b", "->", "::", "\\bdouble\\b", "\\bfloat\\b", "\\bjava\\.", "Exact\\(",
-        "\\bSystem\\.(?!arraycopy)", "\\bThread\\b", "\\bstatic \\{", "\\bprotected\\b", "\\b(equals|hashCode|toString)\\("};
+        "\\bSystem\\.(?!arraycopy)", "\\bThread\\b", "\\bstatic \\{", "\\bprotected\\b",
+        "\\b(equals|hashCode|toString)\\("};
     private static final String[] FACE = {"row", "picture", "word", "paint", "mark", "of", "seed", "set", "count",
         "batch", "share", "once", "resume", "next", "at", "act", "out", "like"};
     private static final Checks checks = new Checks();
